@@ -8,6 +8,7 @@ public final class DoorTest {
         hour();
         ring();
         meanAndRank();
+        fallingRanks();
         rolling();
         rollingWithGaps();
         greatNumbers();
@@ -127,6 +128,16 @@ public final class DoorTest {
         Due.same("a mean of nothing is 0, not NONE", x.mean(0), 0);
         Due.same("a rank of nothing is 0, not NONE", x.rank(0, 2), 0);
         Due.same("a rolling mean of nothing is 0, not NONE", x.rolling(0, 2), 0);
+    }
+
+    private static void fallingRanks() {
+        WindBoxes x = new WindBoxes();
+        Due.daily(x, 0, 0, 512, 0);
+        x.hours(1, 0);
+        x.hours(9, 500);
+        for (int k = 1; k <= 10; k++) {
+            Due.same("falling rank(0, " + k + ")", x.rank(0, k), 512 >> (k - 1));
+        }
     }
 
     private static void rolling() {

@@ -133,7 +133,10 @@ public final class HourTest {
         Due.same("back: 810 - 81 + 18", x.grains(0, 3), 747);
         Due.same("81 blown away to the left", x.total(0, 3), 81);
         Due.same("nothing comes back from outside", x.grains(0, 5), 9);
+        x.hours(1, 1000);
+        Due.same("what is blown away is not washed out", x.total(0, 3), 81);
         upAndDown();
+        throughEachWall();
     }
 
     private static void upAndDown() {
@@ -152,6 +155,26 @@ public final class HourTest {
         x.hours(1, 0);
         Due.same("47 of 950 go down", x.grains(1, 4), 47);
         Due.same("4 of 95 go down and away", x.total(2, 3), 4);
+    }
+
+    /** A wind out of each box at each of its walls, one at a time: the still net there takes its part. */
+    private static void throughEachWall() {
+        for (int box = 0; box < 9; box++) {
+            int left = 4 * (box / 3) + box % 3;
+            int[] walls = {left, left + 1, 12 + box, 15 + box};
+            int[] there = {box % 3 == 0 ? -1 : box - 1, box % 3 == 2 ? -1 : box + 1,
+                box < 3 ? -1 : box - 3, box > 5 ? -1 : box + 3};
+            for (int i = 0; i < 4; i++) {
+                WindBoxes x = new WindBoxes();
+                x.wind(walls[i], i % 2 == 0 ? -100 : 100);
+                long go = 999L * Math.abs(x.still(walls[i])) / 100352000;
+                Due.holds("the still net goes out at wall " + walls[i], go > 0);
+                Due.daily(x, 1, box, 1000, 0);
+                x.hours(1, 0);
+                long came = there[i] < 0 ? x.total(1, 3) : x.grains(1, there[i]);
+                Due.same("through wall " + walls[i] + " from box " + box, came, go);
+            }
+        }
     }
 
     private static void totals() {

@@ -8,6 +8,7 @@ public final class LawTest {
         law();
         price();
         cheapest();
+        firstLaw();
         order();
         lostHoursBreakNoLaw();
         twoDoors();
@@ -111,6 +112,14 @@ public final class LawTest {
         cuts("all must go, at the greatest price", x, 10, 10, 10, 30000);
         x.law(0, 3);
         cuts("all three hours may be above", x, 0, 0, 0, 0);
+    }
+
+    private static void firstLaw() {
+        WindBoxes x = new WindBoxes();
+        Due.daily(x, 1, 0, 1, 0);
+        x.hours(1, 0);
+        x.watch(0, true);
+        cuts("one grain in one hour is above 0 of 0", x, 0, 10, 0, 10);
     }
 
     /** Of cuts as cheap the fewer tenths of source 0 come first, then of 1, then of 2; a price of 0 too. */
