@@ -128,11 +128,8 @@ public final class WindBoxes {
             return BAD;
         }
         Sheet row = sheets[sheet];
-        if (!row.held) {
-            return NULL;
-        }
-        if (row.lane != lane) {
-            return CAST;
+        if (!row.isOf(lane)) {
+            return row.held ? CAST : NULL;
         }
         if (!isBelow(i, row.length)) {
             return INDEX;
@@ -146,11 +143,8 @@ public final class WindBoxes {
             return BAD;
         }
         Sheet row = sheets[sheet];
-        if (!row.held) {
-            return NULL;
-        }
-        if (row.lane != lane) {
-            return CAST;
+        if (!row.isOf(lane)) {
+            return row.held ? CAST : NULL;
         }
         if (row.length != DAY) {
             return INDEX;
@@ -359,6 +353,10 @@ public final class WindBoxes {
             held = true;
             lane = newLane;
             length = newLength;
+        }
+
+        boolean isOf(int wanted) {
+            return held && lane == wanted;
         }
 
         boolean areRates() {

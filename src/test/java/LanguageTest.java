@@ -7,7 +7,8 @@ import java.util.regex.Pattern;
 /** Words and forms that LANGUAGE.md rules out do not stand in the class. */
 public final class LanguageTest {
     private static final String[] RULED_OUT = {
-        "\\bthrow\\b", "\\bthrows\\b", "\\btry\\b", "\\bcatch\\b", "\\bsynchronized\\b", "\\bassert\\b", "\\bpackage\\b",
+        "\\bthrow\\b", "\\bthrows\\b", "\\btry\\b", "\\bcatch\\b", "\\bsynchronized\\b", "\\bassert\\b",
+        "\\bpackage\\b",
         "->", "::", "\\w+Exact\\b", "\\bSystem\\.(?!arraycopy)", "\\bRandom\\b", "\\bThread\\b",
         "\\bprotected\\b", "\\bstatic\\s*\\{", "\\bhashCode\\b", "\\btoString\\b", "\\bequals\\b"};
 

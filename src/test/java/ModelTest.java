@@ -2,7 +2,8 @@ import java.util.Random;
 
 /** Runs of 512 calls, drawn by fixed seeds, asked of the class and of the model: all answers are the same. */
 public final class ModelTest {
-    private static final int[] ODD = {-1, 3, 4, 9, 24, 25, 51, 100, 101, 1000, 1001, Integer.MIN_VALUE, Integer.MAX_VALUE};
+    private static final int[] ODD = {-1, 3, 4, 9, 24, 25, 51, 100, 101, 1000, 1001,
+        Integer.MIN_VALUE, Integer.MAX_VALUE};
     private static final int[] ROUGH = {0, 1, 7, 999, 1000, 32767, 32768, 65535, 65536, 999999, 1000000, 1000001, -1};
 
     private final Random random;
