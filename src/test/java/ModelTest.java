@@ -1,6 +1,6 @@
 import java.util.Random;
 
-/** Runs of 512 calls, drawn by fixed seeds, asked of the class and of the model: all answers are the same. */
+/** Runs of some 500 calls, drawn by fixed seeds, asked of the class and of the model: all answers are the same. */
 public final class ModelTest {
     private static final int[] ODD = {-1, 3, 4, 9, 24, 25, 51, 100, 101, 1000, 1001,
         Integer.MIN_VALUE, Integer.MAX_VALUE};
