@@ -2,15 +2,21 @@
 final class Due {
     private static int wrong = 0;
     private static int asked = 0;
+    private static String words = "";
 
     private Due() {
+    }
+
+    /** The document's words that the next answers are asked for: told beside each wrong one. */
+    static void sentence(String of) {
+        words = " (" + of + ")";
     }
 
     static void same(String call, long got, long want) {
         asked++;
         if (got != want) {
             wrong++;
-            System.out.println(call + " answered " + got + ", due is " + want);
+            System.out.println(call + " answered " + got + ", due is " + want + words);
         }
     }
 
@@ -40,5 +46,12 @@ final class Due {
             sum += rates[i];
         }
         same("source(" + source + ", " + box + ", 3, 1)", x.source(source, box, 3, 1), sum);
+    }
+
+    static void cuts(String when, WindBoxes x, int cut0, int cut1, int cut2, int cost) {
+        same(when + ": cheapest(0)", x.cheapest(0), cut0);
+        same(when + ": cheapest(1)", x.cheapest(1), cut1);
+        same(when + ": cheapest(2)", x.cheapest(2), cut2);
+        same(when + ": cheapest(3)", x.cheapest(3), cost);
     }
 }

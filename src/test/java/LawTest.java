@@ -75,43 +75,36 @@ public final class LawTest {
         }
     }
 
-    private static void cuts(String when, WindBoxes x, int cut0, int cut1, int cut2, int cost) {
-        Due.same(when + ": cheapest(0)", x.cheapest(0), cut0);
-        Due.same(when + ": cheapest(1)", x.cheapest(1), cut1);
-        Due.same(when + ": cheapest(2)", x.cheapest(2), cut2);
-        Due.same(when + ": cheapest(3)", x.cheapest(3), cost);
-    }
-
     private static void cheapest() {
         WindBoxes x = three();
         int[] bad = {-1, 4, MIN, MAX};
         for (int what : bad) {
             Due.same("cheapest(" + what + ")", x.cheapest(what), BAD);
         }
-        cuts("no door watched", x, 0, 0, 0, 0);
+        Due.cuts("no door watched", x, 0, 0, 0, 0);
         x.watch(0, true);
-        cuts("the law of 0 of 0 at first", x, 10, 10, 10, 30);
+        Due.cuts("the law of 0 of 0 at first", x, 10, 10, 10, 30);
         x.law(300, 0);
-        cuts("kept without cuts", x, 0, 0, 0, 0);
+        Due.cuts("kept without cuts", x, 0, 0, 0, 0);
         x.law(279, 0);
-        cuts("21 must go, a tenth is 3, 6, 21", x, 0, 0, 1, 1);
+        Due.cuts("21 must go, a tenth is 3, 6, 21", x, 0, 0, 1, 1);
         x.law(278, 0);
-        cuts("22 must go, the fewer of source 1 first", x, 0, 0, 2, 2);
+        Due.cuts("22 must go, the fewer of source 1 first", x, 0, 0, 2, 2);
         x.price(2, 30);
-        cuts("the third is dear", x, 0, 4, 0, 4);
+        Due.cuts("the third is dear", x, 0, 4, 0, 4);
         x.price(1, 3);
-        cuts("the second is dear too", x, 8, 0, 0, 8);
+        Due.cuts("the second is dear too", x, 8, 0, 0, 8);
         x.law(278, 1);
-        cuts("one hour above is allowed", x, 0, 0, 0, 0);
+        Due.cuts("one hour above is allowed", x, 0, 0, 0, 0);
         x.law(195, 1);
-        cuts("of 200 5 must go, a tenth is 2, 4, 14", x, 3, 0, 0, 3);
+        Due.cuts("of 200 5 must go, a tenth is 2, 4, 14", x, 3, 0, 0, 3);
         x.price(0, 1000);
         x.price(1, 1000);
         x.price(2, 1000);
         x.law(0, 2);
-        cuts("all must go, at the greatest price", x, 10, 10, 10, 30000);
+        Due.cuts("all must go, at the greatest price", x, 10, 10, 10, 30000);
         x.law(0, 3);
-        cuts("all three hours may be above", x, 0, 0, 0, 0);
+        Due.cuts("all three hours may be above", x, 0, 0, 0, 0);
     }
 
     private static void firstLaw() {
@@ -119,7 +112,7 @@ public final class LawTest {
         Due.daily(x, 1, 0, 1, 0);
         x.hours(1, 0);
         x.watch(0, true);
-        cuts("one grain in one hour is above 0 of 0", x, 0, 10, 0, 10);
+        Due.cuts("one grain in one hour is above 0 of 0", x, 0, 10, 0, 10);
     }
 
     /** Of cuts as cheap the fewer tenths of source 0 come first, then of 1, then of 2; a price of 0 too. */
@@ -131,19 +124,19 @@ public final class LawTest {
         x.hours(1, 0);
         x.watch(0, true);
         x.law(150, 0);
-        cuts("15 tenths, any", x, 0, 5, 10, 15);
+        Due.cuts("15 tenths, any", x, 0, 5, 10, 15);
         x.price(0, 0);
-        cuts("source 0 costs nothing", x, 10, 0, 5, 5);
+        Due.cuts("source 0 costs nothing", x, 10, 0, 5, 5);
         x.price(1, 0);
-        cuts("nor does 1", x, 5, 10, 0, 0);
+        Due.cuts("nor does 1", x, 5, 10, 0, 0);
         x.price(2, 0);
-        cuts("nothing costs", x, 0, 5, 10, 0);
+        Due.cuts("nothing costs", x, 0, 5, 10, 0);
         x.law(299, 0);
-        cuts("one tenth of any", x, 0, 0, 1, 0);
+        Due.cuts("one tenth of any", x, 0, 0, 1, 0);
         x.price(2, 1);
-        cuts("one tenth, 2 costs", x, 0, 1, 0, 0);
+        Due.cuts("one tenth, 2 costs", x, 0, 1, 0, 0);
         x.price(1, 1);
-        cuts("one tenth, 1 and 2 cost", x, 1, 0, 0, 0);
+        Due.cuts("one tenth, 1 and 2 cost", x, 1, 0, 0, 0);
     }
 
     private static void lostHoursBreakNoLaw() {
@@ -154,12 +147,12 @@ public final class LawTest {
         x.lose(0, true);
         x.hours(2, 0);
         Due.same("law(100, 0)", x.law(100, 0), 1);
-        cuts("only LOST hours are above", x, 0, 0, 0, 0);
+        Due.cuts("only LOST hours are above", x, 0, 0, 0, 0);
         Due.same("law(99, 0)", x.law(99, 0), 0);
-        cuts("10 of 100 a tenth", x, 1, 0, 0, 1);
+        Due.cuts("10 of 100 a tenth", x, 1, 0, 0, 1);
         x.door(0, 0);
         Due.same("what goes breaks no law", x.law(0, 0), 1);
-        cuts("what goes breaks no law", x, 0, 0, 0, 0);
+        Due.cuts("what goes breaks no law", x, 0, 0, 0, 0);
     }
 
     private static void twoDoors() {
@@ -171,11 +164,11 @@ public final class LawTest {
         x.hours(1, 0);
         x.watch(1, true);
         x.law(50, 0);
-        cuts("door 1 alone", x, 5, 0, 0, 5);
+        Due.cuts("door 1 alone", x, 5, 0, 0, 5);
         x.watch(2, true);
-        cuts("both doors", x, 5, 9, 0, 14);
+        Due.cuts("both doors", x, 5, 9, 0, 14);
         x.watch(1, false);
-        cuts("door 2 alone", x, 0, 9, 0, 9);
+        Due.cuts("door 2 alone", x, 0, 9, 0, 9);
         Due.same("law(499, 0)", x.law(499, 0), 0);
         Due.same("law(500, 0)", x.law(500, 0), 1);
     }

@@ -5,7 +5,7 @@ import java.util.List;
 
 /**
  * The document told a second time, by other ways than the class goes: fractions by elimination, hours in
- * lists, ranks by sorting, cuts by trying all 1331. Only ever asked by ModelTest.
+ * lists, ranks by sorting, cuts by trying all 1331. Asked by ModelTest and RefusalTest.
  */
 final class Model {
     private static final BigInteger PARTS = BigInteger.valueOf(100352);
