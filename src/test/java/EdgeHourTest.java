@@ -274,6 +274,23 @@ public final class EdgeHourTest {
             x.hours(1, 0);
             Due.holds("none comes back", x.total(1, 3) >= 5 && x.total(1, 4) <= 45);
         }
+        blownAwayStays();
+    }
+
+    private static void blownAwayStays() {
+        WindBoxes x = new WindBoxes();
+        for (int wall = 0; wall < 4; wall++) {
+            x.wind(wall, -100);
+        }
+        Due.daily(x, 0, 0, 1000000, 0);
+        x.hours(1, 0);
+        Due.same("a tenth of 999000", x.total(0, 3), 99900);
+        x.hours(1, 1000);
+        Due.same("what is blown away is not washed out", x.total(0, 3), 99900);
+        Due.same("all that was left is", x.total(0, 1), 899100);
+        x.hours(1, 0);
+        Due.same("nor is it laid down", x.total(0, 2), 1000);
+        Due.same("nor does it come back", x.total(0, 3), 99900);
     }
 
     private static void neverAllCanGo() {

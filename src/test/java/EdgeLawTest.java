@@ -47,7 +47,17 @@ public final class EdgeLawTest {
         Due.same("0 is not above 0", x.law(0, 0), 1);
         x = watched(Street.of(1));
         Due.same("1 is above 0", x.law(0, 0), 0);
-        Due.same("all sources together", watched(new Street().hour(2, 2, 2)).law(5, 0), 0);
+        x = watched(new Street().hour(2, 2, 2));
+        Due.same("all sources together are 6", x.law(5, 0), 0);
+        Due.same("and no more", x.law(6, 0), 1);
+        for (int source = 0; source < 3; source++) {
+            x = new WindBoxes();
+            x.watch(0, true);
+            Due.daily(x, source, 0, 5, 0);
+            x.hours(1, 0);
+            Due.same("5 of source " + source + " alone are above 4", x.law(4, 0), 0);
+            Due.same("and not above 5", x.law(5, 0), 1);
+        }
     }
 
     private static void noMoreThanN() {
