@@ -53,10 +53,10 @@ public final class EdgeLawTest {
         for (int source = 0; source < 3; source++) {
             x = new WindBoxes();
             x.watch(0, true);
-            Due.daily(x, source, 0, 5, 0);
+            Due.daily(x, source, 0, 20, 0);
             x.hours(1, 0);
-            Due.same("5 of source " + source + " alone are above 4", x.law(4, 0), 0);
-            Due.same("and not above 5", x.law(5, 0), 1);
+            Due.same("20 of source " + source + " alone are above 19", x.law(19, 0), 0);
+            Due.same("and not above 20", x.law(20, 0), 1);
         }
     }
 
