@@ -22,6 +22,9 @@ public final class WindBoxes {
     private static final int MOST_LIMIT = 1000000000;
     private static final int MOST_PRICE = 1000;
 
+    /** The cuts sought start from a sum that none have, so that even the dearest ones take its place. */
+    private static final int NO_CUTS_COST = SOURCES * ALL_TENTHS * MOST_PRICE + 1;
+
     private static final int BAD_WIND = BAD - 1000;
     private static final long BAD_STILL = BAD - 1000000000L;
 
@@ -570,7 +573,7 @@ public final class WindBoxes {
          * while the second one rises, and each pair of the first two needs no more than its least third.
          */
         void seekCuts(Log[] logs) {
-            leastCost = Integer.MAX_VALUE;
+            leastCost = NO_CUTS_COST;
             for (int cut0 = 0; cut0 <= ALL_TENTHS; cut0++) {
                 int cut2 = ALL_TENTHS + 1;
                 for (int cut1 = 0; cut1 <= ALL_TENTHS; cut1++) {

@@ -25,7 +25,7 @@ public final class FaceTest {
         Constructor<?>[] made = WindBoxes.class.getDeclaredConstructors();
         Due.holds("one public constructor", made.length == 1 && Modifier.isPublic(made[0].getModifiers())
             && made[0].getParameterCount() == 0);
-        nested();
+        names();
         Due.end();
     }
 
@@ -60,10 +60,14 @@ public final class FaceTest {
         Due.same("SIZE", WindBoxes.SIZE, -14);
     }
 
-    private static void nested() {
+    private static void names() {
         Set<String> open = new TreeSet<>();
         for (Method m : WindBoxes.class.getMethods()) {
             open.add(m.getName());
+        }
+        for (Method m : WindBoxes.class.getDeclaredMethods()) {
+            Due.holds("no private method is named as a public one: " + m.getName(),
+                !Modifier.isPrivate(m.getModifiers()) || !open.contains(m.getName()));
         }
         for (Class<?> c : WindBoxes.class.getDeclaredClasses()) {
             Due.holds(c.getName() + " is static and not public", Modifier.isStatic(c.getModifiers())
