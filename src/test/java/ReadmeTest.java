@@ -63,7 +63,8 @@ public final class ReadmeTest {
         for (String line : lines.split("\n")) {
             Matcher call = CALL.matcher(line);
             if (call.matches()) {
-                asking.append("got.add(new long[] {").append(shown.size()).append(", ").append(call.group(1)).append("});\n");
+                asking.append("got.add(new long[] {").append(shown.size()).append(", ");
+                asking.append(call.group(1)).append("});\n");
                 shown.add(call.group(1));
                 names.add(call.group(2));
                 told.add(call.group(3));
@@ -78,7 +79,7 @@ public final class ReadmeTest {
     private String told() {
         List<String> values = new ArrayList<>();
         for (String value : told) {
-            values.add((Character.isUpperCase(value.charAt(0)) ? "WindBoxes." : "") + value + (value.matches(".*\\d") ? "L" : ""));
+            values.add(Character.isUpperCase(value.charAt(0)) ? "WindBoxes." + value : value + "L");
         }
         return "public static long[] told = {" + String.join(", ", values) + "};\n";
     }

@@ -1,25 +1,35 @@
+import java.io.IOException;
 import java.lang.reflect.Array;
 import java.lang.reflect.Field;
 import java.lang.reflect.Modifier;
+import java.nio.file.Files;
+import java.nio.file.Path;
 import java.util.ArrayDeque;
 import java.util.Collections;
 import java.util.Deque;
 import java.util.IdentityHashMap;
+import java.util.Locale;
 import java.util.Set;
 
 /** What an object holds: as much as README.md says, and the same things behind 512 calls as before them. */
 public final class RoomTest {
-    public static void main(String[] args) throws IllegalAccessException {
+    public static void main(String[] args) throws IOException, IllegalAccessException {
         WindBoxes x = new WindBoxes();
         Room before = new Room(x);
-        Due.same("objects and arrays", before.things.size(), 59);
-        Due.same("fields and elements", before.places, 2398);
+        String size = String.format(Locale.ROOT, "a WindBoxes is %d objects and arrays with %,d fields and elements",
+            before.things.size(), before.places);
+        Due.holds("README.md tells: " + size, readme().contains(size));
+        Due.holds("a thousand such have room", before.things.size() <= 600 && before.places <= 7300);
         int calls = fillUp(x);
         Due.same("calls", calls, 512);
         Room after = new Room(x);
         Due.holds("the same objects and arrays", after.things.equals(before.things));
         Due.same("fields and elements behind the calls", after.places, before.places);
         Due.end();
+    }
+
+    private static String readme() throws IOException {
+        return Files.readString(Path.of("README.md")).replaceAll("\\s+", " ");
     }
 
     private static int fillUp(WindBoxes x) {
